@@ -10,17 +10,33 @@ final class Check {
         void run();
     }
 
+    private static final String THROWS = "throws.";
+
+    private static String sentence = "";
+    private static int sentences = 0;
     private static int done = 0;
     private static int wrong = 0;
 
     private Check() {
     }
 
+    /** The test of one sentence of the document, whose words stand before each wrong answer. */
+    static void sentence(String words, Deed test) {
+        int before = done;
+        sentence = "\"" + words + "\": ";
+        sentences++;
+        String end = thrownBy(test);
+        if (done == before || end.startsWith(THROWS)) {
+            same("its test", end.startsWith(THROWS) ? end : "checked nothing", "ended");
+        }
+        sentence = "";
+    }
+
     static void same(String what, Object got, Object due) {
         done++;
         if (!due.equals(got)) {
             wrong++;
-            System.out.println(what + ": answered " + got + ", due is " + due);
+            System.out.println(sentence + what + ": answered " + got + ", due is " + due);
         }
     }
 
@@ -59,12 +75,13 @@ final class Check {
         try {
             return Long.toString(call.answer());
         } catch (RuntimeException e) {
-            return "throws." + e.getClass().getSimpleName();
+            return THROWS + e.getClass().getSimpleName();
         }
     }
 
     static void end() {
-        System.out.println(done + " checks, " + wrong + " wrong");
+        String of = sentences == 0 ? "" : " of " + sentences + " sentences";
+        System.out.println(done + " checks" + of + ", " + wrong + " wrong");
         if (wrong != 0 || done == 0) {
             System.exit(1);
         }
